@@ -44,7 +44,7 @@ public final class OracleTests {
     private int style;
 
     public static void main(String[] args) {
-        int runs = args.length > 0 ? Integer.parseInt(args[0]) : 60;
+        int runs = args.length > 0 ? Integer.parseInt(args[0]) : 150;
         for (int r = 0; r < runs; r++) {
             new OracleTests().play(r);
         }
