@@ -45,31 +45,6 @@ public final class PromiseTests {
         Due.end("PromiseTests");
     }
 
-    /** 6 go from node 0 to node 1, by arc 0 (capacity 4, cost 3 + 2x) or arc 1 (capacity 10, cost 5 - x). */
-    private static ParametricFlow two() {
-        ParametricFlow x = new ParametricFlow();
-        x.addArc(0, 1, 4, 3, 2);
-        x.addArc(0, 1, 10, 5, -1);
-        x.setSupply(0, 6, 1);
-        x.setSupply(1, -6, -1);
-        return x;
-    }
-
-    /** From node 0 to node 3 in five ways; with x = 0 there are five pivots. */
-    private static ParametricFlow four() {
-        ParametricFlow x = new ParametricFlow();
-        x.reset(4);
-        x.addArc(0, 1, 8, 2, 1);
-        x.addArc(0, 2, 5, 4, -1);
-        x.addArc(1, 2, 3, 1, 0);
-        x.addArc(1, 3, 6, 5, 0);
-        x.addArc(2, 3, 9, 2, 1);
-        x.addArc(0, 3, 4, 9, -2);
-        x.setSupply(0, 10, 1);
-        x.setSupply(3, -10, -1);
-        return x;
-    }
-
     private static void constants() {
         Due.is("UNKNOWN", ParametricFlow.UNKNOWN, UNKNOWN);
         Due.is("BAD_VALUE", ParametricFlow.BAD_VALUE, BAD_VALUE);
@@ -94,7 +69,7 @@ public final class PromiseTests {
     }
 
     private static void reset() {
-        ParametricFlow x = two();
+        ParametricFlow x = Nets.two();
         x.setMode(1);
         x.solve(0, 1);
         Due.is("2: reset(1)", x.reset(1), BAD_VALUE);
@@ -150,7 +125,7 @@ public final class PromiseTests {
     }
 
     private static void removeArc() {
-        ParametricFlow x = two();
+        ParametricFlow x = Nets.two();
         Due.is("4: one left", x.removeArc(), 1);
         Due.is("4: the highest is gone", x.arc(1, 0), UNKNOWN);
         Due.is("4: the other one stays", x.arc(0, 2), 4);
@@ -162,7 +137,7 @@ public final class PromiseTests {
     }
 
     private static void setArc() {
-        ParametricFlow x = two();
+        ParametricFlow x = Nets.two();
         Due.is("5: capacity", x.setArc(0, 0, 1000), 4);
         Due.is("5: capacity again", x.setArc(0, 0, 1), 1000);
         Due.is("5: cost", x.setArc(1, 1, -100), 5);
@@ -239,7 +214,7 @@ public final class PromiseTests {
     }
 
     private static void network() {
-        ParametricFlow x = four();
+        ParametricFlow x = Nets.four();
         x.setSupply(1, 4, 7);
         x.setMode(1);
         int[] due = {4, 6, 1, 4, 7, 0};
@@ -255,7 +230,7 @@ public final class PromiseTests {
     }
 
     private static void solve() {
-        ParametricFlow x = two();
+        ParametricFlow x = Nets.two();
         Due.is("10: p below", x.solve(-10001, 1), BAD_VALUE);
         Due.is("10: p above", x.solve(10001, 1), BAD_VALUE);
         Due.is("10: q 0", x.solve(0, 0), BAD_VALUE);
@@ -267,8 +242,8 @@ public final class PromiseTests {
         Due.is("10: greatest parameter", x.solve(10000, 1), 1);
         Due.is("10: least parameter", x.solve(-10000, 1), 2);
         Due.is("10: small parameter", x.solve(-10000, 1000), 2);
-        Due.is("10: five pivots", four().solve(0, 1), 5);
-        Due.is("10: five pivots, mode 1", mode(four(), 1).solve(3, 2), 5);
+        Due.is("10: five pivots", Nets.four().solve(0, 1), 5);
+        Due.is("10: five pivots, mode 1", Nets.mode(Nets.four(), 1).solve(3, 2), 5);
         x.setSupply(0, 7, 1);
         Due.is("10: unbalanced", x.solve(0, 1), UNBALANCED);
         Due.is("10: bad ahead of unbalanced", x.solve(0, 0), BAD_VALUE);
@@ -293,13 +268,8 @@ public final class PromiseTests {
         Due.is("10: not for 1", x.solve(1, 1), UNBALANCED);
     }
 
-    private static ParametricFlow mode(ParametricFlow x, int mode) {
-        x.setMode(mode);
-        return x;
-    }
-
     private static void solutionStaysOrGoes() {
-        ParametricFlow x = mode(two(), 1);
+        ParametricFlow x = Nets.mode(Nets.two(), 1);
         x.solve(-5, 2);
         Due.is("10: infeasible for 9", x.solve(9, 1), INFEASIBLE);
         Due.is("10: bad", x.solve(1, 0), BAD_VALUE);
@@ -318,7 +288,7 @@ public final class PromiseTests {
         Due.is("solution: it stays, pivots", x.pivot(1, false), NONE);
         Due.is("solution: it stays, limit", x.limit(true, false), -2);
         for (int change = 0; change < 9; change++) {
-            x = two();
+            x = Nets.two();
             x.solve(0, 1);
             Due.is("solution: there before change " + change, x.network(5), 1);
             switch (change) {
@@ -342,7 +312,7 @@ public final class PromiseTests {
     }
 
     private static void pivot() {
-        ParametricFlow x = two();
+        ParametricFlow x = Nets.two();
         x.solve(0, 1);
         Due.is("11: arc 0 enters", x.pivot(0, false), 0);
         Due.is("11: and goes to its other bound", x.pivot(0, true), 0);
@@ -361,7 +331,7 @@ public final class PromiseTests {
         x.setSupply(1, -4, 0);
         x.solve(0, 1);
         Due.is("11: of equal amounts the last one", x.pivot(0, true), 101);
-        x = four();
+        x = Nets.four();
         x.solve(0, 1);
         int[][] due = {{4, 102}, {2, 101}};
         for (int k = 0; k < due.length; k++) {
@@ -371,7 +341,7 @@ public final class PromiseTests {
     }
 
     private static void objective() {
-        ParametricFlow x = two();
+        ParametricFlow x = Nets.two();
         x.solve(0, 1);
         Due.is("12: 4 * 3 + 2 * 5", x.objective(false), 22);
         Due.is("12: 22 / 1", x.objective(true), 1);
@@ -394,7 +364,7 @@ public final class PromiseTests {
     }
 
     private static void flow() {
-        ParametricFlow x = two();
+        ParametricFlow x = Nets.two();
         x.solve(7, 10);
         Due.is("13: arc 0, dearer now", x.flow(0, false), 0);
         Due.is("13: 0 / 1", x.flow(0, true), 1);
@@ -415,7 +385,7 @@ public final class PromiseTests {
     }
 
     private static void reducedCost() {
-        ParametricFlow x = two();
+        ParametricFlow x = Nets.two();
         x.solve(0, 1);
         Due.is("14: at the upper bound", x.reducedCost(0), -2);
         Due.is("14: in the tree", x.reducedCost(1), 0);
@@ -429,13 +399,13 @@ public final class PromiseTests {
         Due.is("14: no arc 2", x.reducedCost(2), NO_VALUE);
         Due.is("14: no arc -1", x.reducedCost(-1), NO_VALUE);
         Due.is("14: not the artificial arcs", x.reducedCost(101), NO_VALUE);
-        x = four();
+        x = Nets.four();
         x.solve(0, 1);
         Due.is("14: arc 5 of four", x.reducedCost(5), 2);
     }
 
     private static void potential() {
-        ParametricFlow x = two();
+        ParametricFlow x = Nets.two();
         x.solve(0, 1);
         Due.is("15: 1 + 2 * 5", x.potential(0), 11);
         Due.is("15: 11 - 5", x.potential(1), 6);
@@ -461,7 +431,7 @@ public final class PromiseTests {
     }
 
     private static void bound() {
-        ParametricFlow x = two();
+        ParametricFlow x = Nets.two();
         Due.is("16: unknown ahead of no solution", x.bound(2), UNKNOWN);
         Due.is("16: no solution", x.bound(1), NO_SOLUTION);
         x.solve(0, 1);
@@ -479,7 +449,7 @@ public final class PromiseTests {
     }
 
     private static void tree() {
-        ParametricFlow x = two();
+        ParametricFlow x = Nets.two();
         Due.is("17: unknown ahead of no solution", x.tree(2, 0), UNKNOWN);
         Due.is("17: no solution ahead of bad", x.tree(0, 9), NO_SOLUTION);
         x.solve(0, 1);
@@ -493,7 +463,7 @@ public final class PromiseTests {
         Due.is("17: what 4", x.tree(0, 4), BAD_VALUE);
         Due.is("17: not the root", x.tree(2, 0), UNKNOWN);
         Due.is("17: node -1", x.tree(-1, 0), UNKNOWN);
-        x = four();
+        x = Nets.four();
         x.solve(0, 1);
         int[][] four = {{4, 100, 1, 4}, {0, 0, 2, 3}, {3, 4, 4, 1}, {1, 3, 3, 2}};
         for (int node = 0; node < 4; node++) {
@@ -504,7 +474,7 @@ public final class PromiseTests {
     }
 
     private static void preorder() {
-        ParametricFlow x = four();
+        ParametricFlow x = Nets.four();
         Due.is("18: no solution ahead of bad", x.preorder(-1), NO_SOLUTION);
         x.solve(0, 1);
         int[] due = {4, 0, 1, 3, 2};
@@ -526,7 +496,7 @@ public final class PromiseTests {
     }
 
     private static void limit() {
-        ParametricFlow x = two();
+        ParametricFlow x = Nets.two();
         x.solve(0, 1);
         Due.is("19: arc 0 stays full up to 2/3", x.limit(true, false), 2);
         Due.is("19: 2 / 3", x.limit(true, true), 3);
@@ -550,7 +520,7 @@ public final class PromiseTests {
         x.solve(0, 1);
         Due.is("19: nothing depends on it, below", x.limit(false, false), NO_VALUE);
         Due.is("19: nothing depends on it, above", x.limit(true, false), NO_VALUE);
-        x = four();
+        x = Nets.four();
         x.solve(0, 1);
         Due.is("19: four, lower", x.limit(false, false), -1);
         Due.is("19: four, upper", x.limit(true, false), 2);
@@ -558,7 +528,7 @@ public final class PromiseTests {
     }
 
     private static void value() {
-        ParametricFlow x = two();
+        ParametricFlow x = Nets.two();
         Due.is("20: 22", x.value(0, 1, false), 22);
         Due.is("20: 22 / 1", x.value(0, 1, true), 1);
         Due.is("20: 47 / 2", x.value(1, 4, false), 47);
@@ -578,7 +548,7 @@ public final class PromiseTests {
     }
 
     private static void problem() {
-        ParametricFlow x = mode(two(), 1);
+        ParametricFlow x = Nets.mode(Nets.two(), 1);
         Due.is("21: none", x.problem(0, 1), NONE);
         Due.is("21: none at the end", x.problem(8, 1), NONE);
         Due.is("21: infeasible beyond it", x.problem(8001, 1000), INFEASIBLE);
@@ -597,7 +567,7 @@ public final class PromiseTests {
     }
 
     private static void breakpoints() {
-        ParametricFlow x = two();
+        ParametricFlow x = Nets.two();
         Due.is("22: one at 2/3", x.breakpoints(0, 1), 1);
         Due.is("22: the whole range", x.breakpoints(-1000, 1000), 1);
         Due.is("22: none behind it", x.breakpoints(1, 2), 0);
@@ -625,7 +595,7 @@ public final class PromiseTests {
     }
 
     private static void breakpoint() {
-        ParametricFlow x = two();
+        ParametricFlow x = Nets.two();
         Due.is("23: 2 / 3", x.breakpoint(-5, 5, 0, false), 2);
         Due.is("23: its denominator", x.breakpoint(-5, 5, 0, true), 3);
         Due.is("23: no second one", x.breakpoint(-5, 5, 1, false), NO_VALUE);
@@ -647,7 +617,7 @@ public final class PromiseTests {
     }
 
     private static void slope() {
-        ParametricFlow x = two();
+        ParametricFlow x = Nets.two();
         Due.is("24: 4 * 2 - 2 * 1", x.slope(-5, 5, 0), 6);
         Due.is("24: 6 * -1", x.slope(-5, 5, 1), -6);
         Due.is("24: no third piece", x.slope(-5, 5, 2), NO_VALUE);
@@ -669,7 +639,7 @@ public final class PromiseTests {
     }
 
     private static void noSolutionYet() {
-        ParametricFlow x = two();
+        ParametricFlow x = Nets.two();
         Due.is("11: no solution", x.pivot(-1, false), NO_SOLUTION);
         Due.is("12: no solution", x.objective(false), NO_VALUE);
         Due.is("12: no solution, denominator", x.objective(true), NO_VALUE);
