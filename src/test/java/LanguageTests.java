@@ -23,8 +23,9 @@ public final class LanguageTests {
     private static final String[] CONSTANTS = {"UNKNOWN", "BAD_VALUE", "UNBALANCED", "INFEASIBLE", "NO_SOLUTION",
         "FULL", "NONE", "NO_VALUE"};
     private static final String[] OUT = {"\\bthrow\\b", "\\bthrows\\b", "\\btry\\b", "\\bcatch\\b",
-        "\\bsynchronized\\b", "\\bassert\\b", "->", "::", "Exact\\b", "\\bThread\\b", "\\bSystem\\.(?!arraycopy)", "\\bRandom\\b",
-        "\\bequals\\b", "\\bhashCode\\b", "\\btoString\\b", "\\bpackage\\b", "\\bObject\\b", "@", "\""};
+        "\\bsynchronized\\b", "\\bassert\\b", "->", "::", "Exact\\b", "\\bThread\\b",
+        "\\bSystem\\.(?!arraycopy)", "\\bRandom\\b", "\\bequals\\b", "\\bhashCode\\b", "\\btoString\\b",
+        "\\bpackage\\b", "\\bObject\\b", "@", "\""};
     private static final int LONGEST_METHOD = 60;
 
     private LanguageTests() {
