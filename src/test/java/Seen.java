@@ -2,8 +2,8 @@ import java.util.ArrayList;
 import java.util.List;
 
 /**
- * What can be seen of an object: the answers of the calls that ask. Some 200 calls, so that an object can be looked at
- * twice within its 512.
+ * What can be seen of an object: answers of all the calls that ask, of the first and last arcs and a few parameters.
+ * Some 200 calls, so that an object can be looked at twice within its 512.
  */
 final class Seen {
     private static final int[][] PARAMETERS = {{-5, 1}, {0, 1}, {1, 2}, {7, 3}};
